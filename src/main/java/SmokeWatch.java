@@ -691,7 +691,7 @@ public final class SmokeWatch {
         }
 
         int heightOf(int n) {
-            return hasNumber(n) ? heights[n] : 0;
+            return n >= 0 && n < AREA ? heights[n] : 0;
         }
 
         int stepCost(int from, int to) {
@@ -824,26 +824,24 @@ public final class SmokeWatch {
 
         int bestNewSquare() {
             if (!bestKnown) {
-                bestSquare = findBestNewSquare();
+                findBestSquare(unseenSquares().size());
                 bestKnown = true;
             }
             return bestSquare;
         }
 
-        private int findBestNewSquare() {
-            int all = unseenSquares().size();
+        private void findBestSquare(int all) {
             int most = 0;
-            int found = NONE;
+            bestSquare = NONE;
             for (int n = 0; n < AREA && most < all; n++) {
                 if (wood.hasNumber(n)) {
                     int sees = unseenSeenFrom(n, all, most);
                     if (sees > most) {
                         most = sees;
-                        found = n;
+                        bestSquare = n;
                     }
                 }
             }
-            return found;
         }
 
         // Gives up as soon as what is left can't beat the most so far: this is the dearest loop.
