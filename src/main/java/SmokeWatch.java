@@ -44,7 +44,7 @@ public final class SmokeWatch {
     private static final int[] NEXT_RIGHT = {0, 1, 1, 1, 0, -1, -1, -1};
 
     private static final int FLOAT_ONE = 0x3F800000;
-    private static final int FLOAT_MINUS_ZERO = Integer.MIN_VALUE;
+    private static final int FLOAT_MINUS_ZERO = 0x80000000;
 
     // Far above every sum of minutes, and two of it still fit into an int.
     private static final int FAR = 1_000_000_000;
@@ -663,7 +663,7 @@ public final class SmokeWatch {
 
     /** The ground: which squares are there, their heights and minutes, and what a line meets. */
     private static final class Wood {
-        private static final int NEVER = Integer.MAX_VALUE;
+        private static final int NEVER = FAR;
         private final int[] lengths = new int[WIDTH];
         private final int[] heights = new int[AREA];
         private final int[] stepMinutes = new int[AREA];

@@ -11,19 +11,6 @@ public final class PromisesTest {
         CHECKS.due(what, want, got);
     }
 
-    /** A flat wood at height 0, each step of 1 minute. */
-    private static SmokeWatch flat(int rows, int columns) {
-        SmokeWatch x = new SmokeWatch();
-        for (int r = 0; r < rows; r++) {
-            x.row(r, columns, 0, 1);
-        }
-        return x;
-    }
-
-    private static int glow(SmokeWatch x, int t, int minute, int down, int right) {
-        return x.sight(3, t, minute, down, right, 0, 0, 0);
-    }
-
     public static void main(String[] args) {
         newObject();
         row();
@@ -113,9 +100,9 @@ public final class PromisesTest {
     }
 
     private static void rowTakesAway() {
-        SmokeWatch x = flat(1, 4);
+        SmokeWatch x = Woods.flat(1, 4);
         x.tower(0, 0, 10);
-        glow(x, 0, 1, 0, 1);
+        Woods.glow(x, 0, 1, 0, 1);
         x.begin(0);
         x.crew(0, 0);
         x.claim(1, 3);
@@ -140,7 +127,7 @@ public final class PromisesTest {
     }
 
     private static void square() {
-        SmokeWatch x = flat(2, 3);
+        SmokeWatch x = Woods.flat(2, 3);
         due("square missing column", false, x.square(0, 3, 0, 1));
         due("square missing row", false, x.square(2, 0, 0, 1));
         due("square row -1", false, x.square(-1, 0, 0, 1));
@@ -165,7 +152,7 @@ public final class PromisesTest {
         due("square with a crew", false, x.square(0, 1, 0, 1));
         x.undo();
         due("square without the crew", true, x.square(0, 1, 0, 1));
-        glow(x, 0, 1, 0, 1);
+        Woods.glow(x, 0, 1, 0, 1);
         x.begin(0);
         x.apart(0);
         x.clear(0);
@@ -173,7 +160,7 @@ public final class PromisesTest {
     }
 
     private static void tower() {
-        SmokeWatch x = flat(2, 3);
+        SmokeWatch x = Woods.flat(2, 3);
         due("tower missing", NONE, x.tower(0, 3, 0));
         due("tower row -1", NONE, x.tower(-1, 0, 0));
         due("tower height -1", NONE, x.tower(0, 0, -1));
@@ -191,7 +178,7 @@ public final class PromisesTest {
     }
 
     private static void see() {
-        SmokeWatch x = flat(5, 5);
+        SmokeWatch x = Woods.flat(5, 5);
         x.tower(2, 0, 10);
         due("see own", 1, x.see(0, 2, 0));
         due("see tower -1", NONE, x.see(-1, 2, 0));
@@ -217,7 +204,7 @@ public final class PromisesTest {
     }
 
     private static void seeAtTheEdge() {
-        SmokeWatch x = flat(1, 5);
+        SmokeWatch x = Woods.flat(1, 5);
         x.tower(0, 0, 80);
         // 80 falls to 0 over 4 squares; out of (0, 1) at 3 / 8: 50; out of (0, 3) at 7 / 8: 10.
         x.square(0, 1, 49, 1);
@@ -229,14 +216,14 @@ public final class PromisesTest {
         due("see just below late", 1, x.see(0, 0, 4));
         x.square(0, 3, 10, 1);
         due("see at the height late", 0, x.see(0, 0, 4));
-        SmokeWatch ground = flat(1, 3);
+        SmokeWatch ground = Woods.flat(1, 3);
         ground.tower(0, 0, 0);
         due("see along the ground", 0, ground.see(0, 0, 2));
         due("see beside on the ground", 1, ground.see(0, 0, 1));
     }
 
     private static void seeUphill() {
-        SmokeWatch x = flat(1, 3);
+        SmokeWatch x = Woods.flat(1, 3);
         x.square(0, 2, 40, 1);
         x.tower(0, 0, 0);
         // Rising from 0 to 40 the line comes into (0, 1) at 10 and goes out at 30: 10 is the lower.
@@ -259,7 +246,7 @@ public final class PromisesTest {
     }
 
     private static void hidden() {
-        SmokeWatch x = flat(3, 6);
+        SmokeWatch x = Woods.flat(3, 6);
         x.tower(0, 0, 10);
         due("hidden none", NONE, x.hidden(0, 0, 5));
         due("hidden own", NONE, x.hidden(0, 0, 0));
@@ -276,7 +263,7 @@ public final class PromisesTest {
         due("hidden slant second", 18, x.hidden(0, 1, 3));
         x.square(0, 1, 50, 1);
         due("hidden slant first", 1, x.hidden(0, 1, 3));
-        SmokeWatch back = flat(1, 6);
+        SmokeWatch back = Woods.flat(1, 6);
         back.square(0, 2, 100, 1);
         back.square(0, 3, 200, 1);
         back.tower(0, 5, 10);
@@ -284,7 +271,7 @@ public final class PromisesTest {
     }
 
     private static void sight() {
-        SmokeWatch x = flat(5, 5);
+        SmokeWatch x = Woods.flat(5, 5);
         x.tower(2, 2, 10);
         due("sight kind -1", NONE, x.sight(-1, 0, 0, 1, 0, 0, 1, 0));
         due("sight kind 4", NONE, x.sight(4, 0, 0, 1, 0, 0, 1, 0));
@@ -321,7 +308,7 @@ public final class PromisesTest {
     }
 
     private static int reachLeft(int reach, int hazeBits) {
-        SmokeWatch x = flat(1, 2);
+        SmokeWatch x = Woods.flat(1, 2);
         x.tower(0, 0, 1);
         int i = x.sight(2, 0, 0, 0, 1, 0, reach, hazeBits);
         return i == NONE ? -99 : x.log(i, 5);
@@ -353,7 +340,7 @@ public final class PromisesTest {
     }
 
     private static void report() {
-        SmokeWatch x = flat(3, 3);
+        SmokeWatch x = Woods.flat(3, 3);
         due("report missing", NONE, x.report(3, 0, 0, 1, 0, 0));
         due("report column -1", NONE, x.report(0, -1, 0, 1, 0, 0));
         due("report minute -1", NONE, x.report(0, 0, -1, 1, 0, 0));
@@ -393,13 +380,13 @@ public final class PromisesTest {
     }
 
     private static void clear() {
-        SmokeWatch x = flat(1, 3);
+        SmokeWatch x = Woods.flat(1, 3);
         x.tower(0, 0, 1);
         due("clear nothing", false, x.clear(0));
         due("clear -1", false, x.clear(-1));
         due("clear 60", false, x.clear(60));
         x.remark(1);
-        glow(x, 0, 1, 0, 1);
+        Woods.glow(x, 0, 1, 0, 1);
         due("clear remark", true, x.clear(0));
         due("clear again", false, x.clear(0));
         x.begin(1);
@@ -415,7 +402,7 @@ public final class PromisesTest {
     }
 
     private static void log() {
-        SmokeWatch x = flat(3, 3);
+        SmokeWatch x = Woods.flat(3, 3);
         x.tower(1, 1, 10);
         x.sight(0, 0, 42, 0, 1, 100, 9, 9);
         x.sight(1, 0, 43, 0, 1, 100, 1, 9);
@@ -447,7 +434,7 @@ public final class PromisesTest {
     }
 
     private static void squares() {
-        SmokeWatch x = flat(4, 4);
+        SmokeWatch x = Woods.flat(4, 4);
         x.tower(0, 0, 10);
         // Right by (1, 2): (0, 1) lies aside 100 * 1 of 2 along, (1, 2) on it, (1, 1) 100 * 1 of 3.
         x.sight(0, 0, 0, 1, 2, 0, 0, 0);
@@ -478,7 +465,7 @@ public final class PromisesTest {
     }
 
     private static void squaresSeen() {
-        SmokeWatch x = flat(1, 4);
+        SmokeWatch x = Woods.flat(1, 4);
         x.square(0, 1, 100, 1);
         x.tower(0, 0, 10);
         x.sight(0, 0, 0, 0, 1, 0, 0, 0);
@@ -487,26 +474,14 @@ public final class PromisesTest {
         due("squares short", 1, x.log(1, 3));
         x.sight(2, 0, 0, 0, 1, 0, 9, 0);
         due("squares faint", 1, x.log(2, 3));
-        glow(x, 0, 0, 0, 1);
+        Woods.glow(x, 0, 0, 0, 1);
         due("squares glow", 3, x.log(3, 3));
         x.report(0, 0, 0, 0, 1, 0);
         due("squares report", 3, x.log(4, 3));
     }
 
-    /** Two towers and glows whose squares are a row or a column each. */
-    private static SmokeWatch crossing() {
-        SmokeWatch x = flat(5, 5);
-        x.tower(2, 0, 10);
-        x.tower(0, 2, 10);
-        glow(x, 0, 1, 0, 1);
-        glow(x, 1, 1, 1, 0);
-        glow(x, 0, 1, 1, 0);
-        glow(x, 0, 2, 0, 1);
-        return x;
-    }
-
     private static void join() {
-        SmokeWatch x = crossing();
+        SmokeWatch x = Woods.crossing();
         due("join no fire", false, x.join(1, 0));
         x.begin(0);
         due("join in one already", false, x.join(0, 0));
@@ -526,7 +501,7 @@ public final class PromisesTest {
         due("join log", 0, x.log(1, 4));
         due("join same tower, other minute", true, x.join(3, 0));
         due("join sightings", 3, x.fire(0, 1));
-        glow(x, 0, 3, 1, 0);
+        Woods.glow(x, 0, 3, 1, 0);
         due("join empty patch", false, x.join(5, 0));
         x.out(0);
         x.report(2, 0, 1, 0, 1, 0);
@@ -540,7 +515,7 @@ public final class PromisesTest {
     }
 
     private static void begin() {
-        SmokeWatch x = crossing();
+        SmokeWatch x = Woods.crossing();
         due("begin -1", NONE, x.begin(-1));
         due("begin 60", NONE, x.begin(60));
         due("begin nothing", NONE, x.begin(4));
@@ -561,7 +536,7 @@ public final class PromisesTest {
     }
 
     private static void apart() {
-        SmokeWatch x = crossing();
+        SmokeWatch x = Woods.crossing();
         due("apart of none", false, x.apart(0));
         due("apart -1", false, x.apart(-1));
         due("apart 60", false, x.apart(60));
@@ -587,13 +562,13 @@ public final class PromisesTest {
     }
 
     private static void office() {
-        SmokeWatch x = flat(5, 5);
+        SmokeWatch x = Woods.flat(5, 5);
         x.tower(2, 0, 10);
         x.tower(0, 2, 10);
         x.tower(0, 4, 10);
-        glow(x, 0, 1, 0, 1);
-        glow(x, 1, 1, 1, 0);
-        glow(x, 2, 1, 1, 0);
+        Woods.glow(x, 0, 1, 0, 1);
+        Woods.glow(x, 1, 1, 1, 0);
+        Woods.glow(x, 2, 1, 1, 0);
         due("office without fires", 0, x.office());
         x.begin(0);
         due("office fits", 1, x.log(2, 6));
@@ -614,7 +589,7 @@ public final class PromisesTest {
     }
 
     private static void out() {
-        SmokeWatch x = crossing();
+        SmokeWatch x = Woods.crossing();
         due("out none", false, x.out(0));
         x.begin(0);
         due("out -1", false, x.out(-1));
@@ -633,7 +608,7 @@ public final class PromisesTest {
     }
 
     private static void fire() {
-        SmokeWatch x = flat(3, 5);
+        SmokeWatch x = Woods.flat(3, 5);
         x.tower(0, 0, 10);
         x.sight(3, 0, 1, 1, 2, 100, 0, 0);
         due("fire none", NONE, x.fire(0, 0));
@@ -653,7 +628,7 @@ public final class PromisesTest {
     }
 
     private static void again() {
-        SmokeWatch x = crossing();
+        SmokeWatch x = Woods.crossing();
         x.begin(0);
         x.begin(1);
         x.out(0);
@@ -662,7 +637,7 @@ public final class PromisesTest {
         due("again the one that is out", 0, x.fire(2, 4));
         x.out(2);
         x.out(1);
-        glow(x, 0, 9, 0, 1);
+        Woods.glow(x, 0, 9, 0, 1);
         due("again begin", 3, x.begin(4));
         due("again the latest by number", 2, x.fire(3, 4));
         x.report(4, 4, 0, -1, 0, 0);
@@ -671,14 +646,14 @@ public final class PromisesTest {
         x.report(0, 0, 0, 0, 1, 0);
         x.begin(6);
         due("again not by a row apart", NONE, x.fire(5, 4));
-        glow(x, 0, 20, 1, 0);
+        Woods.glow(x, 0, 20, 1, 0);
         x.begin(7);
         due("again none", NONE, x.fire(6, 4));
         againByPatchAlone();
     }
 
     private static void againByPatchAlone() {
-        SmokeWatch x = crossing();
+        SmokeWatch x = Woods.crossing();
         x.begin(0);
         x.join(1, 0);
         x.out(0);
@@ -691,7 +666,7 @@ public final class PromisesTest {
     }
 
     private static void patch() {
-        SmokeWatch x = crossing();
+        SmokeWatch x = Woods.crossing();
         due("patch none", NONE, x.patch(0, 0));
         x.begin(0);
         for (int k = 0; k < 4; k++) {
@@ -712,7 +687,7 @@ public final class PromisesTest {
     }
 
     private static void fewest() {
-        SmokeWatch x = crossing();
+        SmokeWatch x = Woods.crossing();
         due("fewest none", 0, x.fewest(3, 9999));
         due("fewest of a turned range", 0, x.fewest(2, 1));
         due("fewest one", 1, x.fewest(2, 2));
@@ -740,7 +715,7 @@ public final class PromisesTest {
 
     /** Joining each to the first that it fits would make three: {0, 1}, {2}, {3}. */
     private static void fewestNotGreedy() {
-        SmokeWatch x = flat(1, 9);
+        SmokeWatch x = Woods.flat(1, 9);
         x.tower(0, 0, 100);
         x.tower(0, 4, 100);
         x.tower(0, 8, 100);
@@ -756,7 +731,7 @@ public final class PromisesTest {
     }
 
     private static void next() {
-        SmokeWatch x = flat(5, 5);
+        SmokeWatch x = Woods.flat(5, 5);
         x.report(2, 0, 0, 0, 1, 0);
         due("next no fire", NONE, x.next(0));
         x.begin(0);
@@ -764,7 +739,7 @@ public final class PromisesTest {
         due("next -1", NONE, x.next(-1));
         due("next 20", NONE, x.next(20));
         nextHalves();
-        SmokeWatch y = crossing();
+        SmokeWatch y = Woods.crossing();
         y.begin(0);
         y.out(0);
         due("next out", NONE, y.next(0));
@@ -774,7 +749,7 @@ public final class PromisesTest {
     }
 
     private static void nextHalves() {
-        SmokeWatch x = flat(5, 5);
+        SmokeWatch x = Woods.flat(5, 5);
         x.tower(0, 0, 50);
         x.tower(0, 2, 50);
         x.report(2, 0, 0, 0, 1, 0);
@@ -784,7 +759,7 @@ public final class PromisesTest {
         // By d 4 (down): (2, 1) aside 1 of 2: 50 > 41. None: 4. By d 2 (right): (2, 4): 2 of 4: 50. None.
         // Tower 1 by d 4: (2, 2) alone: 3; by d 3 (down right): (2, 3) 33 and (2, 4) 0: 2.
         due("next", 8 + 3, x.next(0));
-        SmokeWatch low = flat(5, 5);
+        SmokeWatch low = Woods.flat(5, 5);
         low.tower(0, 0, 50);
         low.tower(0, 2, 50);
         low.square(1, 3, 3000, 1);
@@ -796,7 +771,7 @@ public final class PromisesTest {
     }
 
     private static void crew() {
-        SmokeWatch x = flat(1, 2);
+        SmokeWatch x = Woods.flat(1, 2);
         due("crew missing", NONE, x.crew(1, 0));
         due("crew column -1", NONE, x.crew(0, -1));
         due("crew column 2", NONE, x.crew(0, 2));
@@ -830,7 +805,7 @@ public final class PromisesTest {
     }
 
     private static void place() {
-        SmokeWatch x = flat(16, 16);
+        SmokeWatch x = Woods.flat(16, 16);
         x.crew(15, 15);
         x.crew(3, 4);
         due("place 0", 255, x.place(0));
@@ -840,7 +815,7 @@ public final class PromisesTest {
     }
 
     private static void minutes() {
-        SmokeWatch x = flat(3, 3);
+        SmokeWatch x = Woods.flat(3, 3);
         x.square(0, 1, 59, 7);
         due("minutes no crew", NONE, x.minutes(0, 0, 0));
         x.crew(0, 0);
@@ -874,7 +849,7 @@ public final class PromisesTest {
     }
 
     private static void way() {
-        SmokeWatch x = flat(3, 3);
+        SmokeWatch x = Woods.flat(3, 3);
         due("way no crew", NONE, x.way(0, 0, 0, 0));
         x.crew(2, 2);
         int[] want = {34, 18, 2, 1, 0, NONE};
@@ -893,7 +868,7 @@ public final class PromisesTest {
         for (int i = 0; i < right.length; i++) {
             due("way right first " + i, right[i], x.way(1, 2, 2, i));
         }
-        SmokeWatch dear = flat(3, 3);
+        SmokeWatch dear = Woods.flat(3, 3);
         dear.square(0, 1, 0, 2);
         dear.crew(0, 0);
         int[] round = {0, 16, 17, 18, 34, NONE};
@@ -907,20 +882,8 @@ public final class PromisesTest {
         due("way none", NONE, apart.way(0, 2, 0, 0));
     }
 
-    /** Fires whose middles are (0, 1), (2, 1) and so on: a square each. */
-    private static SmokeWatch rows(int n) {
-        SmokeWatch x = flat(2 * n, 8);
-        for (int f = 0; f < n; f++) {
-            x.report(2 * f, 0, 0, 0, 1, 0);
-            x.report(2 * f, 2, 0, 0, -1, 0);
-            x.begin(2 * f);
-            x.join(2 * f + 1, f);
-        }
-        return x;
-    }
-
     private static void send() {
-        SmokeWatch x = rows(2);
+        SmokeWatch x = Woods.fires(2);
         due("send no crews", NONE, x.send());
         x.crew(0, 1);
         due("send more fires than crews", NONE, x.send());
@@ -945,7 +908,7 @@ public final class PromisesTest {
     }
 
     private static void sendNeedsAll() {
-        SmokeWatch x = rows(8);
+        SmokeWatch x = Woods.fires(8);
         for (int k = 0; k < 8; k++) {
             x.crew(2 * (7 - k), 1);
         }
@@ -976,7 +939,7 @@ public final class PromisesTest {
     }
 
     private static void sent() {
-        SmokeWatch x = rows(1);
+        SmokeWatch x = Woods.fires(1);
         x.crew(0, 1);
         due("sent ahead", NONE, x.sent(0));
         x.send();
@@ -992,7 +955,7 @@ public final class PromisesTest {
     }
 
     private static void blinds() {
-        SmokeWatch x = flat(1, 5);
+        SmokeWatch x = Woods.flat(1, 5);
         due("blinds without towers", 5, x.blinds());
         due("blind 0", 0, x.blind(0));
         due("blind 4", 4, x.blind(4));
@@ -1015,7 +978,7 @@ public final class PromisesTest {
     }
 
     private static void best() {
-        SmokeWatch x = flat(1, 5);
+        SmokeWatch x = Woods.flat(1, 5);
         due("best of a flat wood", 0, x.best());
         x.square(0, 2, 100, 1);
         due("best on the hill", 2, x.best());
@@ -1027,10 +990,10 @@ public final class PromisesTest {
         due("best behind a second ridge", 3, x.best());
         x.tower(0, 4, 10);
         due("best none", NONE, x.best());
-        SmokeWatch none = flat(1, 1);
+        SmokeWatch none = Woods.flat(1, 1);
         none.tower(0, 0, 0);
         due("best of one seen square", NONE, none.best());
-        SmokeWatch ten = flat(1, 3);
+        SmokeWatch ten = Woods.flat(1, 3);
         // From 10 to 0 over two squares: out of (0, 1) at 3 / 4: 2.5.
         ten.square(0, 1, 2, 1);
         due("best sees over 2", 0, ten.best());
@@ -1051,7 +1014,7 @@ public final class PromisesTest {
     }
 
     private static void check() {
-        SmokeWatch x = crossing();
+        SmokeWatch x = Woods.crossing();
         due("check alone", NONE, x.check());
         x.claim(0, 7);
         x.claim(1, 7);
@@ -1080,7 +1043,7 @@ public final class PromisesTest {
         due("check without squares", 0, x.check());
         x.claim(0, NONE);
         due("check alone without squares", NONE, x.check());
-        SmokeWatch callers = flat(1, 3);
+        SmokeWatch callers = Woods.flat(1, 3);
         callers.report(0, 0, 5, 0, 1, 0);
         callers.report(0, 0, 5, 0, 1, 0);
         callers.claim(0, 0);
@@ -1089,7 +1052,7 @@ public final class PromisesTest {
     }
 
     private static void undo() {
-        SmokeWatch x = crossing();
+        SmokeWatch x = Woods.crossing();
         x.remark(12);
         x.clear(4);
         x.begin(0);
@@ -1129,7 +1092,7 @@ public final class PromisesTest {
     }
 
     private static void undoLimit() {
-        SmokeWatch x = flat(1, 2);
+        SmokeWatch x = Woods.flat(1, 2);
         x.crew(0, 0);
         for (int i = 0; i < 60; i++) {
             x.move(0, 0, 1 - i % 2);
@@ -1146,7 +1109,7 @@ public final class PromisesTest {
     }
 
     private static void undoKeepsSquares() {
-        SmokeWatch x = flat(1, 5);
+        SmokeWatch x = Woods.flat(1, 5);
         x.tower(0, 0, 10);
         x.sight(0, 0, 1, 0, 1, 0, 0, 0);
         x.clear(0);
@@ -1156,7 +1119,7 @@ public final class PromisesTest {
     }
 
     private static void count() {
-        SmokeWatch x = crossing();
+        SmokeWatch x = Woods.crossing();
         x.begin(0);
         x.crew(0, 0);
         int[] want = {2, 4, 1, 1, 6, 25};
