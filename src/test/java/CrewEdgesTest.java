@@ -1,3 +1,5 @@
+import java.util.Arrays;
+
 /** Crews, their ways and the sending at the edges: Term 4, promises 22 to 28. */
 public final class CrewEdgesTest {
     private static final int NONE = SmokeWatch.NONE;
@@ -15,6 +17,7 @@ public final class CrewEdgesTest {
         minutesNoSuch();
         minutesOfAStep();
         minutesOfTheHighest();
+        minutesOverRoughGround();
         minutesBesideAlone();
         minutesNotRoundTheEdge();
         minutesNoWay();
@@ -29,6 +32,7 @@ public final class CrewEdgesTest {
         sendCannotBeDone();
         sendLeastSum();
         sendLeastRow();
+        sendEachItsOwn();
         sendToTheMiddle();
         sentNoSuch();
         sentOfTheLastFire();
@@ -147,6 +151,57 @@ public final class CrewEdgesTest {
         }
         x.crew(0, 0);
         CHECKS.due("minutes up and down", 8 * 460 + 7 * 60, x.minutes(0, 0, 15));
+    }
+
+    private static int roughHeight(int n) {
+        return (n / 16 * 37 + n % 16 * 91) % 211 * 19 - 1000;
+    }
+
+    private static int roughMinutes(int n) {
+        return 1 + (n / 16 * 13 + n % 16 * 7) % 60;
+    }
+
+    /** Rough ground: from the far corner the least sums are held against sums made less by and by. */
+    private static void minutesOverRoughGround() {
+        int area = 12 * 16;
+        SmokeWatch x = Woods.flat(12, 16);
+        for (int n = 0; n < area; n++) {
+            x.square(n / 16, n % 16, roughHeight(n), roughMinutes(n));
+        }
+        x.crew(11, 15);
+        int[] least = leastOverRoughGround(area);
+        for (int n = 0; n < area; n++) {
+            CHECKS.due("over rough ground to " + n, least[n], x.minutes(0, n / 16, n % 16));
+        }
+        int sum = 0;
+        int at = area - 1;
+        for (int i = 1; at != 0 && i < area; i++) {
+            int to = x.way(0, 0, 0, i);
+            sum += roughStep(at, to);
+            at = to;
+        }
+        CHECKS.due("the way over rough ground has the least sum", least[0], sum);
+    }
+
+    private static int roughStep(int from, int to) {
+        return roughMinutes(to) + Math.max(0, roughHeight(to) - roughHeight(from)) / 10;
+    }
+
+    private static int[] leastOverRoughGround(int area) {
+        int[] least = new int[area];
+        Arrays.fill(least, 1_000_000);
+        least[area - 1] = 0;
+        for (int round = 0; round < area; round++) {
+            for (int from = 0; from < area; from++) {
+                for (int to : new int[] {from - 16, from - 1, from + 1, from + 16}) {
+                    boolean beside = Math.abs(to % 16 - from % 16) <= 1;
+                    if (to >= 0 && to < area && beside) {
+                        least[to] = Math.min(least[to], least[from] + roughStep(from, to));
+                    }
+                }
+            }
+        }
+        return least;
     }
 
     // Term 4: "to a square beside (up, left, right, down)"
@@ -390,6 +445,19 @@ public final class CrewEdgesTest {
         CHECKS.due("the third fire's", 3, x.sent(2));
     }
 
+    // Term 4: "a crew of its own"
+    private static void sendEachItsOwn() {
+        SmokeWatch x = Woods.flat(1, 2);
+        x.report(0, 0, 0, 0, 1, 0);
+        x.report(0, 0, 1, 0, 1, 0);
+        x.begin(0);
+        x.begin(1);
+        x.crew(0, 1);
+        x.crew(0, 0);
+        CHECKS.due("two fires with one middle", 1, x.send());
+        CHECKS.row("the one that stands on it goes to the first alone", f -> x.sent(f), 0, 1);
+    }
+
     private static void sendToTheMiddle() {
         SmokeWatch x = Woods.flat(1, 7);
         x.report(0, 0, 0, 0, 1, 0);
@@ -404,6 +472,7 @@ public final class CrewEdgesTest {
 
     // Promise 28: "NONE: none (also behind a new ROW)"
     private static void sentNoSuch() {
+        CHECKS.row("sent of a new object", new SmokeWatch()::sent);
         SmokeWatch x = Woods.fires(2);
         CHECKS.row("sent ahead of all", x::sent);
         x.crew(0, 1);

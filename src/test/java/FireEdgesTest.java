@@ -38,10 +38,12 @@ public final class FireEdgesTest {
         fewestUpTo10();
         fewestWithoutSquares();
         fewestOneTowerAndMinute();
+        fewestWithPatches();
         fewestOfWhatIsJoined();
         nextNoSuch();
         nextOfOne();
         nextByEachDirection();
+        nextAtTheWidth();
         nextLastOfAll();
         nextSide();
         nextAsBearing();
@@ -491,6 +493,12 @@ public final class FireEdgesTest {
         x.report(0, 1, 0, 1, 0, 100);
         x.begin(0);
         CHECKS.due("middle of a row of three", 17, x.fire(0, 3));
+        x.report(0, 2, 0, 0, -1, 0);
+        x.begin(1);
+        CHECKS.due("middle of the first two", 0, x.fire(1, 3));
+        x.report(0, 1, 0, 0, -1, 0);
+        x.begin(2);
+        CHECKS.due("middle of the first alone", 0, x.fire(2, 3));
         SmokeWatch ring = Woods.flat(3, 3);
         ring.report(0, 0, 0, 1, 1, 400);
         ring.begin(0);
@@ -616,6 +624,22 @@ public final class FireEdgesTest {
         CHECKS.due("each minute once, and callers", 1, y.fewest(0, 9));
     }
 
+    // Promise 20: "each with a PATCH that isn't empty"
+    private static void fewestWithPatches() {
+        SmokeWatch x = Woods.flat(2, 3);
+        x.report(0, 1, 1, 0, -1, 0);
+        x.report(1, 0, 1, -1, 0, 0);
+        CHECKS.due("the first square alone in common", 1, x.fewest(1, 1));
+        x.report(0, 0, 2, 0, 1, 0);
+        x.report(1, 0, 2, 0, 1, 0);
+        CHECKS.due("none in common, asked behind two that have", 2, x.fewest(2, 2));
+        x.report(0, 0, 3, 0, 1, 0);
+        x.report(0, 0, 3, 1, 1, 0);
+        x.report(1, 2, 3, -1, -1, 100);
+        // 1 and 2; 17; 0, 1, 2, 16 and 17: the third goes with each of the others, not with both.
+        CHECKS.due("three of which two go with each", 2, x.fewest(3, 3));
+    }
+
     // Promise 20: "(whatever they are JOINED to now)"
     private static void fewestOfWhatIsJoined() {
         SmokeWatch x = Woods.crossing();
@@ -668,6 +692,37 @@ public final class FireEdgesTest {
             CHECKS.due("patch towards " + d, 3, x.fire(0, 2));
             CHECKS.due("next towards " + d, d, x.next(0));
         }
+    }
+
+    /** A square at the edge of a direction's width, from the tower's own square on, all round. */
+    private static void nextAtTheWidth() {
+        int[][] cases = {
+            {5, 2, 4}, {5, -2, 4}, {2, 5, 2}, {-2, 5, 2}, {2, -5, 6}, {-2, -5, 6},
+            {-7, 3, 1}, {-3, 7, 1}, {7, 3, 3}, {3, 7, 3}, {7, -3, 5}, {3, -7, 5}, {-7, -3, 7}, {-3, -7, 7},
+        };
+        for (int[] c : cases) {
+            SmokeWatch x = Woods.flat(16, 16);
+            x.tower(8, 8, 100);
+            x.report(8 - c[0], 8 - c[1], 0, c[0], c[1], 0);
+            x.begin(0);
+            CHECKS.row("patch of two", k -> x.patch(0, k), twoInOrder(136, 136 + 16 * c[0] + c[1]));
+            CHECKS.due("next to (" + c[0] + ", " + c[1] + ")", c[2], x.next(0));
+        }
+        SmokeWatch up = Woods.flat(9, 16);
+        up.tower(8, 8, 100);
+        up.report(6, 7, 0, 1, 1, 0);
+        up.begin(0);
+        CHECKS.row("patch above and to the right", k -> up.patch(0, k), 120, 137);
+        CHECKS.due("up comes ahead of right", 0, up.next(0));
+        SmokeWatch left = Woods.flat(1, 3);
+        left.tower(0, 2, 100);
+        left.report(0, 2, 0, 0, -1, 0);
+        left.begin(0);
+        CHECKS.due("both to the left", 0, left.next(0));
+    }
+
+    private static int[] twoInOrder(int a, int b) {
+        return new int[] {Math.min(a, b), Math.max(a, b)};
     }
 
     private static void nextLastOfAll() {
@@ -760,6 +815,9 @@ public final class FireEdgesTest {
             x.claim(i, 0);
         }
         CHECKS.due("check of claims without sightings", NONE, x.check());
+        x.report(0, 0, 0, 1, 0, 0);
+        CHECKS.due("check of the first place, without squares", 0, x.check());
+        x.undo();
         for (int i = 0; i < 60; i++) {
             x.remark(i);
         }

@@ -21,7 +21,7 @@ public final class LanguageTest {
         "\\bthrow\\b", "\\bthrows\\b", "\\btry\\b", "\\bcatch\\b", "\\bsynchronized\\b", "\\bassert\\b",
         "\\bpackage\\b", "->", "::", "\\bFloat\\.", "\\bDouble\\.", "Exact\\b", "\\bSystem\\.(?!arraycopy\\()",
         "\\bhashCode\\b", "\\btoString\\b", "\\bObject\\b", "\\bstatic\\s*\\{", "\\bnew\\s+\\w+\\s*\\([^)]*\\)\\s*\\{",
-        "\\bimport\\s+(?!java\\.util\\.Arrays;)", "\\bprotected\\b", "\\bvar\\b");
+        "\\b(Integer|Long|Math)\\.[A-Z]", "\\bimport\\s+(?!java\\.util\\.Arrays;)", "\\bprotected\\b", "\\bvar\\b");
     private static final Set<String> FACE = new TreeSet<>(List.of(
         "row", "square", "tower", "see", "hidden", "sight", "report", "remark", "clear", "log", "squares",
         "join", "begin", "apart", "office", "out", "fire", "patch", "fewest", "next", "crew", "move",
@@ -30,6 +30,7 @@ public final class LanguageTest {
 
     public static void main(String[] args) throws IOException {
         words();
+        lengths();
         face();
         classes();
         room();
@@ -43,6 +44,24 @@ public final class LanguageTest {
         for (String ruledOut : RULED_OUT) {
             Matcher m = Pattern.compile(ruledOut).matcher(code);
             CHECKS.due("in the source: " + ruledOut, false, m.find());
+        }
+    }
+
+    /** A method begins at its indent with a bracket and ends at the same indent. */
+    private static void lengths() throws IOException {
+        Pattern head = Pattern.compile("( {4}| {8})[A-Za-z].*\\) \\{");
+        String indent = null;
+        int length = 0;
+        for (String line : Files.readAllLines(SOURCE)) {
+            length++;
+            Matcher m = head.matcher(line);
+            if (indent == null && m.matches()) {
+                indent = m.group(1);
+                length = 1;
+            } else if (indent != null && line.equals(indent + "}")) {
+                CHECKS.due("a method stays short: " + length, true, length <= 60);
+                indent = null;
+            }
         }
     }
 

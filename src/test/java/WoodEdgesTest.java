@@ -15,6 +15,7 @@ public final class WoodEdgesTest {
         rowGroundIsUsed();
         squareNumbers();
         newRowTakesAway();
+        newRowTakesFires();
         newRowLeavesOthers();
         newRowIsAllNew();
         squarePlaces();
@@ -40,6 +41,8 @@ public final class WoodEdgesTest {
         blindsFollow();
         bestNone();
         bestOfSeveral();
+        bestOfRowsApart();
+        bestForOneBlind();
         bestCountsBlindsAlone();
         CHECKS.finish();
     }
@@ -141,6 +144,26 @@ public final class WoodEdgesTest {
             CHECKS.due("behind a new row: undo", false, x.undo());
             CHECKS.due("behind a new row: sent", NONE, x.sent(0));
             newRowTakesClaims(x);
+        }
+    }
+
+    /** Fires begun behind a new row have nothing of those with the same numbers ahead of it. */
+    private static void newRowTakesFires() {
+        SmokeWatch x = Woods.flat(1, 3);
+        x.report(0, 0, 0, 0, 1, 0);
+        x.report(0, 0, 1, 0, 1, 0);
+        x.begin(0);
+        x.out(0);
+        x.begin(1);
+        CHECKS.due("again ahead of a new row", 0, x.fire(1, 4));
+        x.out(1);
+        x.row(1, 3, 0, 1);
+        for (int f = 0; f < 2; f++) {
+            x.report(f, 0, 0, 0, 1, 0);
+            CHECKS.due("fire behind a new row", f, x.begin(f));
+            CHECKS.due("it burns", 0, x.fire(f, 0));
+            CHECKS.due("it is again none", NONE, x.fire(f, 4));
+            CHECKS.due("it has one sighting", 1, x.fire(f, 1));
         }
     }
 
@@ -565,9 +588,11 @@ public final class WoodEdgesTest {
 
     // Promise 31: "a tower of height 10 more"; "the least number"
     private static void bestOfSeveral() {
-        // From 10 to 0 over two squares the line goes out of the middle one at 2.5.
+        // Out of the middle one the line from 10 to 0 has 2.5, that to 1 has 3.25, that to 2 has 4.
         CHECKS.due("best over 2", 0, Woods.ridge(0, 2, 0).best());
         CHECKS.due("best over 3", 1, Woods.ridge(0, 3, 0).best());
+        CHECKS.due("best over 3 to 1", 0, Woods.ridge(0, 3, 1).best());
+        CHECKS.due("best over 4 to 2", 1, Woods.ridge(0, 4, 2).best());
         CHECKS.due("best of several", 3, bestBehindWall(0));
         CHECKS.due("best is the wall itself", 2, bestBehindWall(-1));
         SmokeWatch last = new SmokeWatch();
@@ -577,6 +602,29 @@ public final class WoodEdgesTest {
             last.square(13, c, c % 2 == 0 ? 3000 : 0, 1);
         }
         CHECKS.due("best of the last row", 240, last.best());
+    }
+
+    /** Each of two rows apart is seen from its own squares alone: none sees all. */
+    private static void bestOfRowsApart() {
+        int[][] cases = {{3, 3, 0}, {2, 3, 32}, {3, 2, 0}, {1, 1, 0}, {1, 16, 32}};
+        for (int[] c : cases) {
+            SmokeWatch x = new SmokeWatch();
+            x.row(0, c[0], 0, 1);
+            x.row(2, c[1], 0, 1);
+            CHECKS.due("best of rows of " + c[0] + " and " + c[1], c[2], x.best());
+        }
+    }
+
+    private static void bestForOneBlind() {
+        CHECKS.due("one square without a tower", 0, Woods.flat(1, 1).best());
+        SmokeWatch first = Woods.ridge(0, 100, 0);
+        first.tower(0, 2, 0);
+        CHECKS.row("the first is blind alone", first::blind, 0);
+        CHECKS.due("best for the first", 0, first.best());
+        SmokeWatch last = Woods.ridge(0, 100, 0);
+        last.tower(0, 0, 0);
+        CHECKS.row("the last is blind alone", last::blind, 2);
+        CHECKS.due("best for the last", 1, last.best());
     }
 
     /** Blind are the squares behind the wall of 100; from it 110 falls to the last: 27.5 at (0, 3). */
