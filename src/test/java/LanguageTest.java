@@ -17,6 +17,7 @@ import java.util.regex.Pattern;
 public final class LanguageTest {
     private static final Checks CHECKS = new Checks("LanguageTest");
     private static final Path SOURCE = Path.of("src/main/java/SmokeWatch.java");
+    private static final Path DOCUMENT = Path.of("../shared/DOC.md");
     private static final List<String> RULED_OUT = List.of(
         "\\bthrow\\b", "\\bthrows\\b", "\\btry\\b", "\\bcatch\\b", "\\bsynchronized\\b", "\\bassert\\b",
         "\\bpackage\\b", "->", "::", "\\bFloat\\.", "\\bDouble\\.", "Exact\\b", "\\bSystem\\.(?!arraycopy\\()",
@@ -32,6 +33,7 @@ public final class LanguageTest {
         words();
         lengths();
         face();
+        faceAsWritten();
         classes();
         room();
         CHECKS.finish();
@@ -83,6 +85,22 @@ public final class LanguageTest {
         Constructor<?>[] constructors = SmokeWatch.class.getDeclaredConstructors();
         CHECKS.due("constructors", 1, constructors.length);
         CHECKS.due("constructor's parameters", 0, constructors[0].getParameterCount());
+    }
+
+    /** Each line of the document's face stands in the source to the letter, and nothing else is public. */
+    private static void faceAsWritten() throws IOException {
+        List<String> source = Files.readAllLines(SOURCE);
+        int lines = 0;
+        for (String line : Files.readAllLines(DOCUMENT)) {
+            if (line.matches("( {4})?public .*[;{]")) {
+                lines++;
+                boolean isCall = line.endsWith(");");
+                String due = isCall ? line.substring(0, line.length() - 1) + " {" : line;
+                CHECKS.due("as in the document: " + due, true, source.contains(due));
+            }
+        }
+        CHECKS.due("the class, a constant, a constructor and the calls", 3 + FACE.size(), lines);
+        CHECKS.due("lines with public", lines, source.stream().filter(l -> l.matches("\\s*public .*")).count());
     }
 
     private static void classes() {
